@@ -194,7 +194,6 @@ public final class SheetKeys {
         if (filling == 0) {
             return PADDING;
         }
-        result.clear();
         for (int i = BLOCK_BYTES; i < many; i += BLOCK_BYTES) {
             unchain(blocks, i);
             blocks.storeTo(result, i - BLOCK_BYTES);

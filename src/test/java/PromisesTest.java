@@ -20,6 +20,7 @@ public final class PromisesTest {
         key();
         digest();
         undoMethods();
+        undoByItsOwnKey();
         undoBlocksRefuses();
         wrongObjects();
         seal();
@@ -428,6 +429,29 @@ public final class PromisesTest {
         Check.same("11: no bytes as they are", y.undo(12, 34, 0), 0);
     }
 
+    /** Undoing takes the key of the object that it is told, whatever was sealed before. */
+    private static void undoByItsOwnKey() {
+        for (int method = 1; method <= 2; method++) {
+            SheetKeys fresh = new SheetKeys();
+            Model model = opened(fresh, 4, 16);
+            byte[] plain = Sheets.some(50, 6);
+            model.row = plain;
+            model.seal(20, 1, method, 3, 4);
+            byte[] sealed = model.result;
+            bothLoad(fresh, model, sealed);
+            Check.same("11: undo without a seal before", fresh.undo(20, 1, method), 50);
+            Check.same("11: undone without a seal before", Sheets.result(fresh), plain);
+            int[][] others = {{21, 1}, {20, 0}, {20, 257}, {20 + 256, 1}, {20 + 65536, 1}};
+            for (int[] o : others) {
+                fresh.seal(o[0], o[1], method, 5, 6);
+                Check.same("11: undo after another seal", fresh.undo(20, 1, method), 50);
+                Check.same("11: undone after another seal", Sheets.result(fresh), plain);
+                Check.same("11: undo by another key", fresh.undo(o[0], o[1], method), model.undo(o[0], o[1], method));
+                Check.same("11: undone by another key", Sheets.result(fresh), method == 1 ? model.result : plain);
+            }
+        }
+    }
+
     private static void undoBlocksRefuses() {
         SheetKeys x = new SheetKeys();
         Model model = opened(x, 4, 16);
@@ -440,8 +464,7 @@ public final class PromisesTest {
             Check.same("11: LENGTH of " + many, x.undo(1, 1, 2), SheetKeys.LENGTH);
             Check.same("11: the result stays", Sheets.result(x), first);
         }
-        // Whatever the last sixteen bytes before sealing end with, they are what the block behind them ends with
-        // once the row is cut so that they are the last block.
+        // Sealing fills up one block more; with that one cut away, the bytes' own end stands where padding is due.
         for (int v = 0; v <= 18; v++) {
             for (int wrong = 0; wrong <= 17; wrong++) {
                 byte[] bytes = Sheets.some(48, 8);
