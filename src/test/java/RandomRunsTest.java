@@ -74,13 +74,17 @@ public final class RandomRunsTest {
     }
 
     private void load(int many, int seed) {
-        byte[] bytes = Arrays.copyOf(Sheets.some(many, seed), (many + 19) / 20 * 20);
+        load(Sheets.some(many, seed));
+    }
+
+    private void load(byte[] bytes) {
+        byte[] whole = Arrays.copyOf(bytes, (bytes.length + 19) / 20 * 20);
         cut(0);
-        for (int i = 0; i < bytes.length; i += 20) {
-            feed(Sheets.word(bytes, i), Sheets.word(bytes, i + 4), Sheets.word(bytes, i + 8),
-                    Sheets.word(bytes, i + 12), Sheets.word(bytes, i + 16));
+        for (int i = 0; i < whole.length; i += 20) {
+            feed(Sheets.word(whole, i), Sheets.word(whole, i + 4), Sheets.word(whole, i + 8),
+                    Sheets.word(whole, i + 12), Sheets.word(whole, i + 16));
         }
-        cut(many);
+        cut(bytes.length);
     }
 
     private void password() {
@@ -88,14 +92,7 @@ public final class RandomRunsTest {
     }
 
     private void openByPassword() {
-        byte[] bytes = random.nextBoolean() ? model.userPassword : model.ownerPassword;
-        cut(0);
-        byte[] whole = Arrays.copyOf(bytes, (bytes.length + 19) / 20 * 20);
-        for (int i = 0; i < whole.length; i += 20) {
-            feed(Sheets.word(whole, i), Sheets.word(whole, i + 4), Sheets.word(whole, i + 8),
-                    Sheets.word(whole, i + 12), Sheets.word(whole, i + 16));
-        }
-        cut(bytes.length);
+        load(random.nextBoolean() ? model.userPassword : model.ownerPassword);
         open();
     }
 
