@@ -14,11 +14,7 @@ final class Check {
     }
 
     static void same(String what, long got, long due) {
-        looked++;
-        if (got != due) {
-            wrong++;
-            System.out.println(what + " answered " + got + ", due is " + due);
-        }
+        same(what, Long.toString(got), Long.toString(due));
     }
 
     static void same(String what, String got, String due) {
@@ -31,13 +27,6 @@ final class Check {
 
     static void same(String what, byte[] got, byte[] due) {
         same(what, Arrays.toString(got), Arrays.toString(due));
-    }
-
-    /** The call throws just this class, and the object is afterwards as it was before. */
-    static void refused(String what, SheetKeys x, Class<? extends RuntimeException> due, Call call) {
-        String before = Sheets.look(x);
-        same(what, outcome(call), "throws." + due.getSimpleName());
-        same(what + " leaves", Sheets.look(x), before);
     }
 
     static String outcome(Call call) {

@@ -41,16 +41,6 @@ final class Sheets {
         return (bytes[i] & 255) << 24 | (bytes[i + 1] & 255) << 16 | (bytes[i + 2] & 255) << 8 | bytes[i + 3] & 255;
     }
 
-    static void told(SheetKeys x, int what, byte[] bytes) {
-        load(x, bytes);
-        Check.same("take(" + what + ")", x.take(what), bytes.length);
-    }
-
-    static int opened(SheetKeys x, byte[] password) {
-        load(x, password);
-        return x.open();
-    }
-
     static byte[] row(SheetKeys x) {
         byte[] bytes = new byte[x.count(1)];
         for (int i = 0; i < bytes.length; i++) {
@@ -79,21 +69,46 @@ final class Sheets {
 
     /** No bytes if the key is unknown. */
     static byte[] key(SheetKeys x) {
+        byte[] bytes = new byte[17];
         int many = 0;
-        while (many < 17 && x.key(many) != SheetKeys.NONE) {
+        for (int b = x.key(0); b != SheetKeys.NONE && many < 17; b = x.key(many)) {
+            bytes[many] = (byte) b;
             many++;
         }
-        byte[] bytes = new byte[many];
-        for (int i = 0; i < many; i++) {
-            bytes[i] = (byte) x.key(i);
-        }
-        return bytes;
+        return Arrays.copyOf(bytes, many);
     }
 
-    /** All that can be seen of the object without changing it. */
+    /** For a call that answers nothing. */
+    static int handler(SheetKeys x, int revision, int length, int permissions, boolean leftOut) {
+        x.handler(revision, length, permissions, leftOut);
+        return 0;
+    }
+
+    /** For a call that answers nothing. */
+    static int enter(SheetKeys x, int what) {
+        x.enter(what);
+        return 0;
+    }
+
+    /** All that can be seen of the object, what it has been told too; the object is used up by it. */
     static String look(SheetKeys x) {
-        return "row " + Arrays.toString(row(x)) + " result " + Arrays.toString(result(x))
-                + " owner " + Arrays.toString(entry(x, 0)) + " user " + Arrays.toString(entry(x, 1))
-                + " key " + Arrays.toString(key(x));
+        StringBuilder seen = new StringBuilder();
+        seen.append("result ").append(Arrays.toString(result(x)));
+        seen.append(entries(x));
+        seen.append(" key ").append(Arrays.toString(key(x)));
+        seen.append(" open ").append(x.open());
+        seen.append(" key ").append(Arrays.toString(key(x)));
+        x.enter(0);
+        x.enter(1);
+        seen.append(" made").append(entries(x)).append(" row");
+        int many = x.count(1);
+        for (int i = 0; i < many; i++) {
+            seen.append(' ').append(x.put(i, 0));
+        }
+        return seen.toString();
+    }
+
+    private static String entries(SheetKeys x) {
+        return " owner " + Arrays.toString(entry(x, 0)) + " user " + Arrays.toString(entry(x, 1));
     }
 }
