@@ -236,13 +236,16 @@ final class Model {
         }
     }
 
+    /** The same there and back. */
+    private byte[] streamedOrCopied(byte[] k, int method) {
+        return method == 0 ? row : streamOf(row, k);
+    }
+
     int undo(int objectNumber, int generation, int method) {
         lookAtObject(objectNumber, generation, method);
         byte[] k = objectKey(objectNumber, generation, method);
-        if (method == 0) {
-            result = row;
-        } else if (method == 1) {
-            result = streamOf(row, k);
+        if (method < 2) {
+            result = streamedOrCopied(k, method);
         } else {
             if (row.length < 32 || row.length % 16 != 0) {
                 return -2;
@@ -266,10 +269,8 @@ final class Model {
     int seal(int objectNumber, int generation, int method, int one, int other) {
         lookAtObject(objectNumber, generation, method);
         byte[] k = objectKey(objectNumber, generation, method);
-        if (method == 0) {
-            result = row;
-        } else if (method == 1) {
-            result = streamOf(row, k);
+        if (method < 2) {
+            result = streamedOrCopied(k, method);
         } else {
             if (16 + (row.length / 16 + 1) * 16 > 16384) {
                 throw new IllegalStateException();

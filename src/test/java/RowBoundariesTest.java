@@ -46,21 +46,19 @@ public final class RowBoundariesTest {
         s.same("digest()", Sheets.result(x), DIGEST_OF_NOTHING);
     }
 
-    private static SheetKeys toldAsNew(int revision, int length, int permissions, boolean leftOut) {
+    private static boolean isAsNewBy(int revision, int length, int permissions, boolean leftOut) {
         SheetKeys x = new SheetKeys();
         x.handler(revision, length, permissions, leftOut);
-        return x;
+        return Sheets.look(x).equals(Sheets.look(new SheetKeys()));
     }
 
     private static void aNewHandler() {
         Sentence s = ofANewObject();
-        String due = Sheets.look(new SheetKeys());
-        s.same("is as after handler(3, 16, -4, false)", Sheets.look(toldAsNew(3, 16, -4, false)).equals(due) ? 1 : 0, 1);
-        s.same("is not as after handler(2, 5, ..)", Sheets.look(toldAsNew(2, 5, -4, false)).equals(due) ? 1 : 0, 0);
-        s.same("is not as after handler(3, 15, ..)", Sheets.look(toldAsNew(3, 15, -4, false)).equals(due) ? 1 : 0, 0);
-        s.same("is not as by permissions -1", Sheets.look(toldAsNew(3, 16, -1, false)).equals(due) ? 1 : 0, 0);
-        s.same("is not as after handler(4, 16, -4, true)",
-                Sheets.look(toldAsNew(4, 16, -4, true)).equals(due) ? 1 : 0, 0);
+        s.same("handler(3, 16, -4, false) changes nothing", isAsNewBy(3, 16, -4, false) ? 1 : 0, 1);
+        s.same("handler(2, 5, -4, false) does", isAsNewBy(2, 5, -4, false) ? 1 : 0, 0);
+        s.same("handler(3, 15, -4, false) does", isAsNewBy(3, 15, -4, false) ? 1 : 0, 0);
+        s.same("handler(3, 16, -1, false) does", isAsNewBy(3, 16, -1, false) ? 1 : 0, 0);
+        s.same("handler(4, 16, -4, true) does", isAsNewBy(4, 16, -4, true) ? 1 : 0, 0);
         SheetKeys x = new SheetKeys();
         x.enter(1);
         x.open();
