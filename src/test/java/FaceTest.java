@@ -52,6 +52,10 @@ public final class FaceTest {
                 Check.same(m.getName() + " bears a public method's name", names.contains(m.getName()) ? 1 : 0, 0);
             }
         }
+        for (Class<?> inside : SheetKeys.class.getDeclaredClasses()) {
+            int seen = inside.getModifiers() & (Modifier.PUBLIC | Modifier.PROTECTED | Modifier.STATIC);
+            Check.same(inside.getName() + " is static and not seen", seen, Modifier.STATIC);
+        }
         Check.same("NONE", SheetKeys.NONE, -1);
         Check.same("LENGTH", SheetKeys.LENGTH, -2);
         Check.same("PADDING", SheetKeys.PADDING, -3);
